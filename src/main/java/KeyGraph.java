@@ -250,8 +250,9 @@ public final class KeyGraph {
 
     private void spreadReach(Key asking, Key comer) {
         for (int i = 0; i < keyCount; i++) {
-            if (keys[i].reaches(asking)) {
-                keys[i].reach |= comer.reach;
+            Key above = keyAt(i);
+            if (above != null && above.reaches(asking)) {
+                above.reach |= comer.reach;
             }
         }
     }
@@ -384,8 +385,9 @@ public final class KeyGraph {
 
         Key firstThatReaches(Key other) {
             for (int i = 0; i < rowSize; i++) {
-                if (row[i].reaches(other)) {
-                    return row[i];
+                Key next = rowKey(i);
+                if (next != null && next.reaches(other)) {
+                    return next;
                 }
             }
             return null;
@@ -520,9 +522,10 @@ public final class KeyGraph {
         }
 
         void takeTopmost() {
-            if (size > 0) {
+            Key top = topmost();
+            if (top != null) {
+                top.inPile = false;
                 size--;
-                keys[size].inPile = false;
             }
         }
 
