@@ -240,6 +240,8 @@ public final class FindingEdgesTest {
         Due.is("state", x.state(leaf), 1);
         x.change(leaf, 1L);
         Due.is("state", x.state(leaf), 1);
+        anotherVersion(x);
+        Due.is("state in a version in which it didn't change", x.state(leaf), 1);
     }
 
     static void p12_neverFound() {

@@ -83,6 +83,17 @@ public final class TermsEdgesTest {
         Due.is("worked", x.worked(key), 2);
     }
 
+    static void t4_sureLastIsNotTheVersionInWhichItChanged() {
+        KeyGraph x = new KeyGraph();
+        int key = Due.keyOver(x, 4, 1L);
+        x.run(key);
+        x.change(key + 1, 3L);
+        x.run(key);
+        Due.is("it changed before the leaf did", x.changed(key) < x.changed(key + 1), true);
+        anotherVersion(x);
+        steps(x, key, "420");
+    }
+
     static void t4_anOldChangeOfAKeyFoundLate() {
         KeyGraph x = new KeyGraph();
         int below = Due.keyOver(x, 4, 1L);
@@ -396,6 +407,35 @@ public final class TermsEdgesTest {
         Due.steps("waits", x, 1, 3);
         Due.steps("the other goes on", x, 0, 2);
         Due.same("steps", Due.allSteps(x, 1), "420");
+    }
+
+    static void t5_waitingLosesNothingOfTheWork() {
+        KeyGraph x = new KeyGraph();
+        int shared = Due.keyOver(x, 0, 1L);
+        int key = Due.keyOver(x, 0, 10L);
+        x.asks(key, shared);
+        x.begin(0, shared);
+        x.begin(1, key);
+        Due.steps("waits", x, 1, 6, 3, 3);
+        Due.steps("the other goes on", x, 0, 6, 2);
+        Due.same("steps", Due.allSteps(x, 1), "620");
+        Due.value(x, key, 11L);
+        Due.asked(x, key, 0, 1);
+    }
+
+    static void t5_waitingLosesNothingOfTheCheck() {
+        KeyGraph x = new KeyGraph();
+        int shared = Due.keyOver(x, 0, 1L);
+        int key = Due.keyOver(x, 0, 10L);
+        x.asks(key, shared);
+        x.run(key);
+        anotherVersion(x);
+        x.begin(0, shared);
+        x.begin(1, key);
+        Due.steps("waits", x, 1, 4, 3, 3);
+        Due.steps("the other goes on", x, 0, 4, 2);
+        Due.same("steps", Due.allSteps(x, 1), "420");
+        Due.is("kept", x.kept(key), 1);
     }
 
     static void t5_waitsNoMoreWhenAllIsCancelled() {

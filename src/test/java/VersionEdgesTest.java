@@ -29,6 +29,15 @@ public final class VersionEdgesTest {
         busy.unchanged();
     }
 
+    static void p06_theSameValueInALaterVersion() {
+        KeyGraph x = new KeyGraph();
+        int leaf = x.leaf(1L);
+        x.change(x.leaf(1L), 2L);
+        x.spoil(x.key(0), true);
+        Due.is("the version, not that of its value", x.change(leaf, 1L), 2);
+        Due.is("changed", x.changed(leaf), 0);
+    }
+
     static void p06_anotherValue() {
         Busy busy = new Busy();
         int before = busy.x.version();
@@ -129,6 +138,14 @@ public final class VersionEdgesTest {
         busy.remember();
         Due.is("spoil", busy.x.spoil(Busy.SURE, true), busy.x.version());
         busy.unchanged();
+    }
+
+    static void p07_asItIsInALaterVersion() {
+        KeyGraph x = new KeyGraph();
+        int key = x.key(0);
+        x.spoil(key, true);
+        x.change(x.leaf(1L), 2L);
+        Due.is("the version, not that of its spoiling", x.spoil(key, true), 2);
     }
 
     static void p07_on() {
