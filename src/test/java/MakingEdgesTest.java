@@ -417,6 +417,20 @@ public final class MakingEdgesTest {
         Due.asked(x, key, 0, 1, 2);
     }
 
+    static void p04_allIsCancelled() {
+        KeyGraph x = new KeyGraph();
+        for (int worker = 0; worker < 4; worker++) {
+            x.begin(worker, x.key(0));
+        }
+        int aside = x.key(0);
+        Due.is("asks", x.asks(aside, x.leaf(1L)), 1);
+        for (int worker = 0; worker < 4; worker++) {
+            Due.is("step(" + worker + ")", x.step(worker), 0);
+        }
+        Due.is("cancel()", x.cancel(), 0);
+        Due.is("nothing was worked out", x.worked(0), 0);
+    }
+
     static void p05_noneBeforeAny() {
         KeyGraph x = chain(3);
         x.asks(0, 77);
